@@ -137,11 +137,12 @@ public final class LoftGraves {
         return was;
     }
 
+    /** The most in all bounds the count, not the gift: what comes behind it is taken, but not counted. */
     public int gift(int d, int n) {
         if (!now.hasDead(d)) return UNKNOWN;
-        if (n < 1 || n > MOST_GIFTS_AT_ONCE || at(now.gifts, d) + n > MOST_GIFTS) return OUTSIDE;
+        if (n < 1 || n > MOST_GIFTS_AT_ONCE) return OUTSIDE;
         if (!has(now.waiting(), d)) return NOT;
-        int then = at(now.gifts, d) + n;
+        int then = Math.min(MOST_GIFTS, at(now.gifts, d) + n);
         put(now.gifts, d, then);
         return then;
     }

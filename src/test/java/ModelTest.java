@@ -247,8 +247,9 @@ public final class ModelTest {
         int gift(int d, int n) {
             if (!isDead(d)) return UNKNOWN;
             Body b = now.dead.get(d);
-            if (n < 1 || n > 999 || b.gifts + n > 9999) return OUTSIDE;
-            return b.waits() ? b.gifts += n : NOT;
+            if (n < 1 || n > 999) return OUTSIDE;
+            if (!b.waits()) return NOT;
+            return b.gifts = Math.min(9999, b.gifts + n);
         }
 
         int knock(int d) {
@@ -645,6 +646,16 @@ public final class ModelTest {
         }
     }
 
+    /** One is given so much that the count comes to its end, and a while behind it; then a BRIBE is asked there. */
+    private boolean givesMuch() {
+        int d = some(0, 6), p = some(0, 6);
+        for (int k = 8 + luck.nextInt(5); k > 0; k--) {
+            int n = 800 + luck.nextInt(200);
+            if (!alike("gift " + d + " " + n, real.gift(d, n), model.gift(d, n))) return false;
+        }
+        return alike("bribe " + d + " " + p, real.bribe(d, p), model.bribe(d, p));
+    }
+
     private boolean asks() {
         int d = some(0, 6);
         int n = some(1, 8), a = some(1, 9), b = some(1, 9), what = some(0, 1);
@@ -695,7 +706,7 @@ public final class ModelTest {
         if (!looks()) return false;
         for (int call = 0; call < CALLS; call++) {
             int kind = luck.nextInt(40);
-            boolean fine = kind == 0 || call == 0 ? talk() : kind < 22 ? acts() : kind < 38 ? asks() : looks();
+            boolean fine = kind == 0 || call == 0 ? talk() : kind == 1 && luck.nextInt(6) == 0 ? givesMuch() : kind < 22 ? acts() : kind < 38 ? asks() : looks();
             if (!fine) return false;
         }
         return looks();

@@ -359,15 +359,23 @@ public final class PromisesTest {
         due("no such one", x.gift(3, 0), UNKNOWN);
         due("no such one", x.gift(-1, 1), UNKNOWN);
         for (int k = 2; k <= 10; k++) due("more and more", x.gift(0, 999), 1 + 999 * k);
-        due("more than 9999 in all", x.gift(0, 9), OUTSIDE);
-        due("9999 in all", x.gift(0, 8), 9999);
-        due("no more", x.gift(0, 1), OUTSIDE);
-        due("nothing was changed", x.dead(0, 3), 9999);
+        due("9998 in all", x.gift(0, 7), 9998);
+        x.keep(0);
+        due("just 9999 in all", x.gift(0, 1), 9999);
+        due("the count stops there", x.gift(0, 1), 9999);
+        due("the count stops there", x.gift(0, 999), 9999);
+        due("it is kept so", x.dead(0, 3), 9999);
+        x.goBack(0);
+        due("one more than 9999", x.gift(0, 2), 9999);
+        due("outside at the most of all", x.gift(0, 1000), OUTSIDE);
         x.lay(1, 0);
         x.knock(2);
         due("laid", x.gift(1, 1), NOT);
         due("knocked", x.gift(2, 1), NOT);
         due("outside goes first", x.gift(2, 1000), OUTSIDE);
+        x.lay(0, 2);
+        due("laid with the most of all", x.gift(0, 999), NOT);
+        due("nothing was changed", x.dead(0, 3), 9999);
     }
 
     private static void knocks() {
