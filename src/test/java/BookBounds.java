@@ -346,7 +346,7 @@ public final class BookBounds {
         }
     }
 
-    /** What is kept at first comes back; and what is kept of the change comes back, too. */
+    /** The change must be one that can be asked for, else its coming back would show nothing. */
     private static void back(LoftGraves x, int i, String what, IntSupplier change, IntSupplier ask) {
         x.keep(i);
         int was = ask.getAsInt();

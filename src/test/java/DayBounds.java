@@ -81,6 +81,35 @@ public final class DayBounds {
         Cases.inOrder(x, 0, 1);
     }
 
+    @Says("2 THE LOFT: the first clause first")
+    static void theMostOfALaterClause() {
+        LoftGraves x = Cases.ruled("dead 1 0 0;dead 2 0 9;", "rank;gifts;");
+        Cases.give(x, 0, 9999);
+        Cases.inOrder(x, 1, 0);
+        Cases.custom(x, "gifts;rank;");
+        Cases.inOrder(x, 0, 1);
+        Cases.custom(x, "rank;kin;");
+        Cases.inOrder(x, 1, 0);
+        LoftGraves y = Cases.ruled("yard 0;dead 1 999 0;dead 2 0 0;", "rank;waits;");
+        for (int k = 0; k < 91; k++) y.spring(99, 0);
+        Cases.inOrder(y, 1, 0);
+        y.letter(1, 1);
+        due("9999 days", y.dead(0, 1), 9999);
+        Cases.inOrder(y, 0, 1);
+    }
+
+    @Says("2 THE LOFT: the first clause first")
+    static void oneGiftMoreThanAllElse() {
+        LoftGraves x = Cases.ruled("dead 99 999 0;dead 0 0 9;", "gifts;rank;waits;kin;");
+        Cases.inOrder(x, 0, 1);
+        x.gift(1, 1);
+        Cases.inOrder(x, 1, 0);
+        Cases.custom(x, "kin;gifts;rank;waits;");
+        Cases.inOrder(x, 0, 1);
+        Cases.custom(x, "waits;gifts;kin;rank;");
+        Cases.inOrder(x, 0, 1);
+    }
+
     @Says("2 THE LOFT: of like ones the least")
     static void likeOnesByNumber() {
         Cases.inOrder(Cases.told(Cases.SEVEN_DEAD), 0, 1, 2, 3, 4, 5, 6);

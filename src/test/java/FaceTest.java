@@ -56,8 +56,7 @@ public final class FaceTest {
 
     private static void checkMembers() {
         Set<String> due = new TreeSet<>(List.of(FACE));
-        Set<String> names = new HashSet<>();
-        for (String face : FACE) names.add(face.substring(0, face.indexOf('(')));
+        Set<String> names = namesOfTheFace();
         Set<String> found = new TreeSet<>();
         for (Method method : LoftGraves.class.getDeclaredMethods()) {
             if (Modifier.isPublic(method.getModifiers())) {
@@ -84,6 +83,12 @@ public final class FaceTest {
         return method.getName() + "(" + String.join(",", kinds) + ")";
     }
 
+    private static Set<String> namesOfTheFace() {
+        Set<String> names = new HashSet<>();
+        for (String face : FACE) names.add(face.substring(0, face.indexOf('(')));
+        return names;
+    }
+
     private static void checkClasses() {
         check(Modifier.isFinal(LoftGraves.class.getModifiers()), "the class is final");
         check(LoftGraves.class.getConstructors().length == 1, "one public constructor");
@@ -97,6 +102,10 @@ public final class FaceTest {
                 if (!Modifier.isStatic(field.getModifiers())) own++;
             }
             check(own <= 20, one + " has twenty fields at most");
+            for (Method method : one.getDeclaredMethods()) {
+                check(!namesOfTheFace().contains(method.getName()), method + " bears the name of a public one");
+                check(method.getParameterCount() <= 7, method + " takes seven parameters at most");
+            }
         }
     }
 
