@@ -91,6 +91,32 @@ public final class BookBounds {
         judged(y, 0, 1, 0);
     }
 
+    @Says("3 LAYING: or that is not the first of the ORDER; NONE.")
+    static void theFirstOfThoseWithTheLeast() {
+        String least = "yard 0;yard 0;dead 0 0 9;dead 0 0 9;";
+        for (String custom : new String[] {"", "rank;", "waits;", "gifts;", "kin;", "rank;waits;gifts;kin;", "kin;gifts;waits;rank;"}) {
+            LoftGraves x = Cases.ruled(least, custom);
+            judged(x, NONE, 0, 0, 1, 1);
+            judged(x, 0, 1, 0);
+            x.seed(Cases.seedFor(3, 9));
+            due("spring(1, 1) by '" + custom + "'", x.spring(1, 1), 1);
+            due("who is laid", x.yard(0, 1), 0);
+        }
+    }
+
+    @Says("3 LAYING: or that is not the first of the ORDER; NONE.")
+    static void theFirstOfThoseWithTheMost() {
+        LoftGraves x = Cases.ruled("yard 0;yard 0;dead 99 999 0;dead 99 999 0;", "gifts;rank;waits;kin;");
+        for (int k = 0; k < 91; k++) x.spring(99, 0);
+        for (int d = 0; d < 2; d++) Cases.give(x, d, 9999);
+        Cases.days(x, 20, 9);
+        x.letter(0, 98);
+        judged(x, NONE, 1, 0, 0, 1);
+        x.letter(0, 99);
+        judged(x, NONE, 0, 0, 1, 1);
+        judged(x, 0, 1, 0);
+    }
+
     @Says("Promise 28: A laying behind THE BOOK: how many. UNKNOWN, FULL (20).")
     static void writeUnknown() {
         LoftGraves x = Cases.told(Cases.EIGHT_YARDS + Cases.SEVEN_DEAD);

@@ -254,6 +254,34 @@ public final class TextBounds {
         Cases.customFault("rankZ;", 1, 4);
     }
 
+    @Says("1 THE PARISH: 1 it cannot stand there (a word that cannot: at its first letter).")
+    static void eachLetterOfAWord() {
+        for (String word : new String[] {"sun", "yard", "dead", "rank", "waits", "gifts", "kin"}) {
+            boolean ofParish = word.equals("sun") || word.equals("yard") || word.equals("dead");
+            for (int k = 0; k <= word.length(); k++) {
+                String rest = word.substring(k);
+                String less = rest.isEmpty() ? "" : word.substring(0, k) + rest.substring(1);
+                String other = rest.isEmpty() ? "" : word.substring(0, k) + "x" + rest.substring(1);
+                for (String text : new String[] {less, other, word.substring(0, k) + "x" + rest}) {
+                    if (text.isEmpty()) continue;
+                    if (ofParish) due("parish of '" + text + "'", parishOf(" " + text + " 1 1 1;"), 1);
+                    else due("custom of '" + text + "'", customOf(" " + text + ";"), 1);
+                }
+            }
+        }
+    }
+
+    /** The place of FAULT 1, or NONE if the answer is another. */
+    private static int parishOf(String text) {
+        LoftGraves x = new LoftGraves();
+        return Cases.parish(x, text) == -11 ? x.fault() : NONE;
+    }
+
+    private static int customOf(String text) {
+        LoftGraves x = new LoftGraves();
+        return Cases.custom(x, text) == -11 ? x.fault() : NONE;
+    }
+
     @Says("1 THE PARISH: blanks (32) may stand anywhere but within words and NUMBERS")
     static void blanks() {
         Cases.parishFine("  sun  1   2 ;  yard3 ; yard   4  ;dead5  6  7  ;  ", 1);
@@ -530,6 +558,27 @@ public final class TextBounds {
         due("yard(0, 0)", x.yard(0, 0), 3);
     }
 
+    @Says("Promise 3: becomes THE PARISH")
+    static void nothingIsLeftOfTheParishBefore() {
+        LoftGraves x = Cases.told(Cases.EIGHT_YARDS + Cases.SEVEN_DEAD);
+        for (int d = 0; d < 5; d++) x.lay(d, 7 - d);
+        x.mark(0, 3);
+        due("quarrels()", x.quarrels() > 0 ? 1 : 0, 1);
+        due("laying(NONE)", x.laying(NONE) > 0 ? 1 : 0, 1);
+        due("fits()", x.fits() > 0 ? 1 : 0, 1);
+        due("mixed(NONE)", x.mixed(NONE), 0);
+        Cases.parish(x, "yard 0;yard 0;yard 0;dead 9 1 1;dead 8 1 2;dead 7 1 3;");
+        due("laying(NONE)", x.laying(NONE), 0);
+        for (int d = 0; d < 3; d++) due("laying(" + d + ")", x.laying(d), d);
+        due("fits()", x.fits(), 6);
+        due("mixed(2)", x.mixed(2), 2);
+        x.lay(0, 0);
+        x.lay(2, 2);
+        due("quarrels()", x.quarrels(), 0);
+        due("offended(2)", x.offended(2), 0);
+        due("laying(1)", x.laying(1), 1);
+    }
+
     @Says("Promise 3: IMAGES are gone")
     static void imagesAreGone() {
         LoftGraves x = Cases.told(TWO);
@@ -679,6 +728,11 @@ public final class TextBounds {
         x.lay(0, 1);
         due("nobody yet", x.yard(0, 1), NONE);
         due("the one with the number 0", x.yard(1, 1), 0);
+        LoftGraves y = Cases.told(Cases.EIGHT_YARDS + Cases.SEVEN_DEAD);
+        for (int i = 0; i < 8; i++) due("of eight YARDS, yard(" + i + ", 1)", y.yard(i, 1), NONE);
+        y.lay(6, 7);
+        for (int i = 0; i < 7; i++) due("of eight YARDS, yard(" + i + ", 1)", y.yard(i, 1), NONE);
+        due("the last in the last", y.yard(7, 1), 6);
     }
 
     @Says("Promise 8: UNKNOWN, OUTSIDE.")
